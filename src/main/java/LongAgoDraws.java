@@ -419,50 +419,45 @@ public final class LongAgoDraws {
             return kind == HEIGHTS && net.held[p] != NOT_HELD;
         }
 
-        boolean placeAllows(int p, int x) {
-            return x >= 0 && x <= most(p) && (!isHeld(p) || x == net.held[p]);
-        }
-
-        boolean linkAllows(int x, int y) {
-            if (kind == HEIGHTS) {
-                return x - y <= 1 && y - x <= 1;
+        /** What a PLACE with this NUMBER gives to the WEIGHT, 0 if no ALLOWED STATE has it there. */
+        int placeWeight(int p, int x) {
+            if (x < 0 || x > most(p) || isHeld(p) && x != net.held[p]) {
+                return 0;
             }
-            return kind != GUESTS || x != 1 || y != 1;
-        }
-
-        int placeWeight(int x) {
             if (kind != GUESTS) {
                 return 1;
             }
             return x == 1 ? u : v;
         }
 
+        /** What a LINK with these NUMBERS gives to the WEIGHT, 0 if no ALLOWED STATE has them there. */
         int linkWeight(int x, int y) {
-            if (kind != NEEDLES) {
-                return 1;
+            switch (kind) {
+                case NEEDLES: return x == y ? u : v;
+                case HEIGHTS: return x - y <= 1 && y - x <= 1 ? 1 : 0;
+                default: return x == 1 && y == 1 ? 0 : 1;
             }
-            return x == y ? u : v;
         }
 
         boolean isAllowed(int[] state) {
             for (int p = 0; p < net.places; p++) {
-                if (!placeAllows(p, state[p])) {
+                if (placeWeight(p, state[p]) == 0) {
                     return false;
                 }
             }
             for (int i = 0; i < net.links; i++) {
-                if (!linkAllows(state[net.oneEnd[i]], state[net.otherEnd[i]])) {
+                if (linkWeight(state[net.oneEnd[i]], state[net.otherEnd[i]]) == 0) {
                     return false;
                 }
             }
             return true;
         }
 
-        /** Of an ALLOWED STATE of a SMALL system: of a larger one a long could not hold it. */
+        /** Of a STATE of a SMALL system: of a larger one a long could not hold it. 0 if it is not ALLOWED. */
         long weightOf(int[] state) {
             long weight = 1;
             for (int p = 0; p < net.places; p++) {
-                weight *= placeWeight(state[p]);
+                weight *= placeWeight(p, state[p]);
             }
             for (int i = 0; i < net.links; i++) {
                 weight *= linkWeight(state[net.oneEnd[i]], state[net.otherEnd[i]]);
@@ -475,17 +470,10 @@ public final class LongAgoDraws {
          * rest of the STATE gives the same to each x, so it can be left out where they are compared.
          */
         long weightAround(int[] state, int p, int x) {
-            if (!placeAllows(p, x)) {
-                return 0;
-            }
-            long weight = placeWeight(x);
+            long weight = placeWeight(p, x);
             int[] row = net.neighbour[p];
             for (int i = 0; i < net.neighbours[p]; i++) {
-                int y = state[row[i]];
-                if (!linkAllows(x, y)) {
-                    return 0;
-                }
-                weight *= linkWeight(x, y);
+                weight *= linkWeight(x, state[row[i]]);
             }
             return weight;
         }
@@ -703,20 +691,19 @@ public final class LongAgoDraws {
             long states = states();
             long sum = 0;
             for (int i = 0; i < states && i < MOST_STATES; i++) {
-                if (rules.isAllowed(row)) {
-                    sum += termOf(asked, p, q);
-                }
+                sum += termOf(asked, p, q);
                 stepOn();
             }
             return sum;
         }
 
         private long termOf(int asked, int p, int q) {
+            long weight = rules.weightOf(row);
             switch (asked) {
-                case STATES: return 1;
-                case WEIGHTS: return rules.weightOf(row);
-                case NUMBERS: return rules.weightOf(row) * row[p];
-                default: return row[p] == row[q] ? rules.weightOf(row) : 0;
+                case STATES: return weight > 0 ? 1 : 0;
+                case WEIGHTS: return weight;
+                case NUMBERS: return weight * row[p];
+                default: return row[p] == row[q] ? weight : 0;
             }
         }
 

@@ -23,6 +23,17 @@ final class Benches {
         return x;
     }
 
+    /** As many PLACES and LINKS as there can be, all LINKS between the two SIDES. */
+    static LongAgoDraws full(int top) {
+        LongAgoDraws x = row(24, top);
+        for (int step = 1; step <= 5; step += 2) {
+            for (int p = 0; p < 24; p++) {
+                x.link(p, (p + step) % 24);
+            }
+        }
+        return x;
+    }
+
     /** Four NEEDLES, all of them neighbours. */
     static LongAgoDraws cluster(int u, int v) {
         LongAgoDraws x = row(4, 1);

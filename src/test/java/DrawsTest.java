@@ -11,6 +11,7 @@ public final class DrawsTest {
         drawnAndMet();
         tally();
         tallyIsRefused();
+        ofAFullBench();
         drawsAreLikelyAsTheyShould();
         Due.end("DrawsTest");
     }
@@ -170,6 +171,29 @@ public final class DrawsTest {
         Due.is("19 not good", x.tally(0, 0, 1), NO);
         Due.is("19 outside before no", x.tally(0, 0, 0), OUTSIDE);
         Due.is("19 unknown before no", x.tally(3, 0, 1), UNKNOWN);
+    }
+
+    private static void ofAFullBench() {
+        LongAgoDraws x = Benches.full(5);
+        Due.is("15 full bench, links", x.told(1), 60);
+        x.kind(Benches.NEEDLES, 2, 2);
+        Due.is("15 needles of a full bench", x.gap(0), 24);
+        int back = x.draw();
+        Due.isTrue("16 needles of a full bench", back > 0 && x.gap(back) == 0);
+        // Where u is v a NUMBER hangs on the LOT alone: they meet at the TICK by which each PLACE has had one.
+        Due.isTrue("18 needles of a full bench", x.met() < -1 && x.gap(back / 2) > 0);
+        x.kind(Benches.HEIGHTS, 1, 1);
+        x.hold(0, 2);
+        Due.is("15 heights of a full bench", x.gap(0), 23);
+        back = x.draw();
+        Due.isTrue("16 heights of a full bench", back > 0 && x.gap(back) == 0);
+        Due.is("17 heights of a full bench", x.drawn(0), 2);
+        Due.is("10 heights of a full bench", x.put(23, 5), NO);
+        x.kind(Benches.GUESTS, 1, 1);
+        Due.is("15 guests of a full bench", x.gap(0), 24);
+        Due.is("11 guests of a full bench", x.take(0), 1);
+        Due.is("10 guests of a full bench", x.put(22, 0), 1);
+        Due.isTrue("14 guests of a full bench", x.run(0, 2000) > 0);
     }
 
     /** The bench's aim: how often a state is drawn comes near its CHANCE. */

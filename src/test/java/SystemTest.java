@@ -163,6 +163,12 @@ public final class SystemTest {
         Due.is("6 sides count for guests alone", x.good(), 1);
         x.kind(Benches.NEEDLES, 2, 1);
         Due.is("6 sides count not for needles", x.good(), 1);
+        x = Benches.row(3, 1);
+        x.kind(Benches.GUESTS, 1, 1);
+        x.link(0, 2);
+        Due.is("6 the first link alone is of one side", x.good(), 0);
+        x.link(0, 1);
+        Due.is("6 the first link is of one side", x.good(), 0);
         x = new LongAgoDraws();
         for (int kind = 0; kind <= 2; kind++) {
             x.kind(kind, 1, 1);
