@@ -2,14 +2,16 @@ import java.util.Random;
 
 /** Runs of calls, told by fixed seeds, on the class and on the model: each answer has to be the same. */
 public final class AgainstModelTest {
-    private static final int RUNS = 600;
-    private static final int CALLS = 120;
+    private static final int RUNS = 1800;
+    // An object is promised for 512 calls; to compare the states takes some 120 of them.
+    private static final int MOST_CALLS = 512 - 125;
 
     private final Random random;
     private final String name;
     private final LongAgoDraws x = new LongAgoDraws();
     private final Model model = new Model();
     private int places;
+    private int calls = 0;
 
     private AgainstModelTest(int run) {
         random = new Random(run);
@@ -26,17 +28,20 @@ public final class AgainstModelTest {
     /** By turns small systems, middling ones and such as run against the limits. */
     private void play(int run) {
         build(run % 3 == 0 ? 1 + random.nextInt(5) : run % 3 == 1 ? 1 + random.nextInt(10) : 14 + random.nextInt(12));
-        for (int i = 0; i < CALLS; i++) {
+        while (calls < MOST_CALLS) {
             if (random.nextInt(12) == 0) {
                 changeSystem();
             } else {
                 ask();
             }
-            if (random.nextInt(6) == 0) {
+            if (calls < MOST_CALLS && random.nextInt(20) == 0) {
                 compareStates();
             }
         }
-        compareStates();
+        if (calls < MOST_CALLS + 5) {
+            compareStates();
+        }
+        Due.isTrue(name + "512 calls at most, not " + calls, calls <= 512);
     }
 
     private void build(int wanted) {
@@ -190,6 +195,7 @@ public final class AgainstModelTest {
     }
 
     private void is(String call, long got, long want) {
+        calls++;
         Due.is(name + call, got, want);
     }
 }

@@ -46,6 +46,97 @@ final class Benches {
         return x;
     }
 
+    /** GOOD and SMALL NEEDLES, one of them HELD: 100 is DRAWN, 011 at hand, 000 LOWEST. */
+    static LongAgoDraws busy() {
+        LongAgoDraws x = path(3, 3);
+        x.kind(NEEDLES, 3, 1);
+        x.hold(1, 2);
+        x.seed(7);
+        x.draw();
+        x.put(1, 1);
+        x.put(2, 1);
+        return x;
+    }
+
+    /** GOOD and SMALL, all as at first: nothing is DRAWN, and LOWEST is at hand. */
+    static LongAgoDraws fresh() {
+        return path(3, 3);
+    }
+
+    /** NEEDLES that are not GOOD, as u is below v: 100 is at hand. */
+    static LongAgoDraws notGood() {
+        LongAgoDraws x = path(3, 3);
+        x.kind(NEEDLES, 1, 3);
+        x.hold(1, 2);
+        x.seed(7);
+        x.put(0, 1);
+        return x;
+    }
+
+    /** HEIGHTS of which none is ALLOWED. */
+    static LongAgoDraws heldTooFar() {
+        LongAgoDraws x = path(2, 5);
+        x.kind(HEIGHTS, 1, 1);
+        x.hold(0, 0);
+        x.hold(1, 2);
+        return x;
+    }
+
+    /** GUESTS that are not GOOD, as both ends of a LINK are of SIDE 0: 10 is at hand. */
+    static LongAgoDraws ofOneSide() {
+        LongAgoDraws x = new LongAgoDraws();
+        x.place(1, 0);
+        x.place(1, 0);
+        x.link(0, 1);
+        x.kind(GUESTS, 1, 1);
+        x.put(0, 1);
+        return x;
+    }
+
+    /** PLACE 0 has six neighbours, PLACE 7 none. */
+    static LongAgoDraws sevenBesideOne() {
+        LongAgoDraws x = star(NEEDLES, 1, 1);
+        x.place(1, 0);
+        return x;
+    }
+
+    /** GOOD NEEDLES of 13 PLACES, one too many for a SMALL system; something is DRAWN. */
+    static LongAgoDraws large() {
+        LongAgoDraws x = row(13, 1);
+        x.draw();
+        x.put(12, 1);
+        return x;
+    }
+
+    /** Neither GOOD nor SMALL. */
+    static LongAgoDraws largeNotGood() {
+        LongAgoDraws x = row(13, 1);
+        x.kind(NEEDLES, 8, 9);
+        return x;
+    }
+
+    /** HEIGHTS without a LINK, one PLACE for each TOP. */
+    static LongAgoDraws ofTops(int... tops) {
+        LongAgoDraws x = new LongAgoDraws();
+        for (int top : tops) {
+            x.place(top, 0);
+        }
+        x.kind(HEIGHTS, 1, 1);
+        return x;
+    }
+
+    /** PLACE 0 in the middle of six neighbours of the other SIDE. */
+    static LongAgoDraws star(int kind, int u, int v) {
+        LongAgoDraws x = new LongAgoDraws();
+        x.place(5, 0);
+        for (int p = 1; p <= 6; p++) {
+            x.place(5, 1);
+            x.link(0, p);
+        }
+        x.kind(kind, u, v);
+        return x;
+    }
+
     static int sumAt(LongAgoDraws x) {
         int sum = 0;
         for (int p = 0; p < x.told(0); p++) {

@@ -198,12 +198,16 @@ public final class DrawsTest {
 
     /** The bench's aim: how often a state is drawn comes near its CHANCE. */
     private static void drawsAreLikelyAsTheyShould() {
-        LongAgoDraws x = Benches.path(3, 1);
-        x.kind(Benches.GUESTS, 2, 1);
+        LongAgoDraws x = null;
         int draws = 20000;
         int sum = 0;
         int[] often = new int[8];
         for (int seed = 0; seed < draws; seed++) {
+            // An object is promised for 512 calls.
+            if (seed % 50 == 0) {
+                x = Benches.path(3, 1);
+                x.kind(Benches.GUESTS, 2, 1);
+            }
             x.seed(seed);
             Due.isTrue("16 meets", x.draw() > 0);
             sum += x.drawn(1);

@@ -2,15 +2,25 @@
 final class Due {
     private static int asked = 0;
     private static int wrong = 0;
+    private static String title = "";
 
     private Due() {
+    }
+
+    /** What stands ahead of each line that is printed from now on. */
+    static void title(String next) {
+        title = next;
+    }
+
+    static int asked() {
+        return asked;
     }
 
     static void is(String call, long got, long want) {
         asked++;
         if (got != want) {
             wrong++;
-            System.out.println(call + " answered " + got + ", due is " + want);
+            System.out.println(title + call + " answered " + got + ", due is " + want);
         }
     }
 
@@ -18,7 +28,7 @@ final class Due {
         asked++;
         if (!holds) {
             wrong++;
-            System.out.println("does not hold: " + what);
+            System.out.println(title + "does not hold: " + what);
         }
     }
 

@@ -182,9 +182,11 @@ public final class HandTest {
 
     /** The first TICK whose PLACE and LOT are as wanted; the LOT lies in from to less than end. */
     private static int find(LongAgoDraws x, int p, int from, int end) {
+        int seed = x.told(5);
+        int places = x.told(0);
         for (int t = 0; t < 4000000; t++) {
-            int m = mixed(x.told(5), t);
-            if ((m >>> 16) % x.told(0) == p && (m & 65535) >= from && (m & 65535) < end) {
+            int m = mixed(seed, t);
+            if ((m >>> 16) % places == p && (m & 65535) >= from && (m & 65535) < end) {
                 return t;
             }
         }
