@@ -12,6 +12,8 @@ public final class LongAgoDraws {
     private static final int LOTS = 65536, MOST_TICKS = 20000, MOST_BACK = 4096, MOST_DRAWS = 8;
     private static final int MOST_STATES = 5000, MOST_SMALL_LINKS = 12;
     private static final int GOES = 0, NOTHING_MET = 1;
+    // The SEED may be any small number, so told() alone has an OUTSIDE of its own.
+    private static final int NOT_TOLD = -2147483648;
 
     private final Net net;
     private final Rules rules;
@@ -277,8 +279,7 @@ public final class LongAgoDraws {
             case 5: return seed;
             case 6: return draws.isKept ? 1 : 0;
             case 7: return net.likeLinks(hand);
-            // The SEED may be any small number, so this call alone has an OUTSIDE of its own.
-            default: return Integer.MIN_VALUE;
+            default: return NOT_TOLD;
         }
     }
 

@@ -33,7 +33,7 @@ final class Edges {
         boolean[] has = new boolean[last + 1];
         for (Method method : test.getDeclaredMethods()) {
             Matcher name = CASE.matcher(method.getName());
-            if (Modifier.isStatic(method.getModifiers()) && name.matches()) {
+            if (isCase(method) && name.matches()) {
                 cases.put(method.getName(), method);
                 int number = Integer.parseInt(name.group(2));
                 Due.isTrue(method.getName() + " belongs here", name.group(1).equals(word) && number <= last);
@@ -48,6 +48,10 @@ final class Edges {
         }
         System.out.println(test.getSimpleName() + ": " + cases.size() + " edges");
         Due.end(test.getSimpleName());
+    }
+
+    static boolean isCase(Method method) {
+        return Modifier.isStatic(method.getModifiers()) && CASE.matcher(method.getName()).matches();
     }
 
     private static void runOne(Method method) throws IllegalAccessException {

@@ -162,6 +162,21 @@ public final class EdgesOfHandTest {
         Edges.refused(Benches::ofOneSide, NO, LongAgoDraws::take, 0, 1);
     }
 
+    private static void promise11WhatIsDrawnIsTakenWhateverWasRunSince() {
+        LongAgoDraws x = Benches.busy();
+        x.gap(0);
+        x.take(2);
+        Due.is("behind a gap", Edges.atHand(x), 100);
+        x.take(0);
+        x.tally(0, 8, 8);
+        x.take(2);
+        Due.is("behind a tally", Edges.atHand(x), 100);
+        x.seed(8);
+        x.run(0, 100);
+        x.take(2);
+        Due.is("behind another SEED and a run", Edges.atHand(x), 100);
+    }
+
     private static void promise11WhatIsTakenIsAnotherRow() {
         LongAgoDraws x = Benches.busy();
         x.take(2);

@@ -6,6 +6,7 @@ import java.lang.reflect.Modifier;
 import java.nio.file.Files;
 import java.nio.file.Path;
 import java.util.List;
+import java.util.TreeMap;
 import java.util.TreeSet;
 import java.util.regex.Matcher;
 import java.util.regex.Pattern;
@@ -21,6 +22,10 @@ public final class LanguageTest {
     private static final List<String> FORBIDDEN = List.of("import ", "package ", "catch", "finally", "synchronized",
         "assert ", "->", "::", "instanceof", "throw", "random", "Thread", "System.out", "nanoTime",
         "currentTimeMillis", "Exact(", "hashCode", "equals(", "toString", "protected");
+
+    private static final String LIBRARY = "(Math|Integer|Long)\\.(compare|max|min|abs|bitCount|floorDiv|floorMod)\\("
+        + "|System\\.arraycopy\\(|Arrays\\.(copyOf|copyOfRange|fill)\\(|List\\.of\\(";
+    private static final Pattern METHOD = Pattern.compile(" {4,8}(?:[\\w\\[\\]]+ )+(\\w+)\\([^;=]*\\) \\{");
 
     public static void main(String[] args) throws IOException {
         face();
@@ -87,10 +92,58 @@ public final class LanguageTest {
             Due.isTrue("made once, in a constructor: " + line,
                 line.startsWith("        final ") || line.matches(" {8}\\w+ = new \\w+"));
         }
+        libraryOf(code);
+        callsAreNotDeep(code);
         methodsAreShort(source);
         for (int i = 0; i < source.length(); i++) {
             Due.isTrue("sign at " + i, source.charAt(i) < 128);
         }
+    }
+
+    /** What is asked of a name with a great letter: of a class inside, or one of the calls that rule 4 lists. */
+    private static void libraryOf(String code) {
+        TreeSet<String> own = new TreeSet<>();
+        for (Class<?> inside : LongAgoDraws.class.getDeclaredClasses()) {
+            own.add(inside.getSimpleName());
+        }
+        Matcher used = Pattern.compile("\\b([A-Z][a-z]\\w*)\\.(\\w+)(\\(?)").matcher(code);
+        while (used.find()) {
+            Due.isTrue("a class inside or a call of the library that is listed: " + used.group(),
+                own.contains(used.group(1)) || used.group().matches(LIBRARY));
+        }
+    }
+
+    /** Rule 11, and that there is no recursion: by the names of the methods, which differ all over the file. */
+    private static void callsAreNotDeep(String code) {
+        TreeMap<String, TreeSet<String>> calls = new TreeMap<>();
+        String method = "";
+        for (String line : code.split("\n")) {
+            Matcher head = METHOD.matcher(line);
+            if (head.matches()) {
+                method = head.group(1);
+                Due.isTrue("there is one method " + method, calls.put(method, new TreeSet<>()) == null);
+            } else if (!method.isEmpty()) {
+                Matcher call = Pattern.compile("(?<!new )\\b(\\w+)\\(").matcher(line);
+                while (call.find()) {
+                    calls.get(method).add(call.group(1));
+                }
+            }
+        }
+        Due.isTrue("methods are found", calls.size() > 60);
+        for (String first : calls.keySet()) {
+            int depth = depthOf(first, calls, 1);
+            Due.isTrue("eight calls deep at most, not " + depth + ": " + first, depth <= 8);
+        }
+    }
+
+    private static int depthOf(String method, TreeMap<String, TreeSet<String>> calls, int depth) {
+        int deepest = depth;
+        for (String next : calls.get(method)) {
+            if (calls.containsKey(next) && depth < 20) {
+                deepest = Math.max(deepest, depthOf(next, calls, depth + 1));
+            }
+        }
+        return deepest;
     }
 
     private static void methodsAreShort(String source) {
